@@ -19,6 +19,7 @@ public final class CarsTest {
         refusedWithoutSpeed();
         results();
         ties();
+        tiesAtTheEnd();
         tiesByPlace();
         greetings();
         classes();
@@ -163,6 +164,11 @@ public final class CarsTest {
         x.car(0, 0);
         x.clock(1, 0, 5000);
         Due.due("error(1, 0): another car's", x.error(1, 0), 2000);
+        x.car(0, 0);
+        x.clock(2, 1, 1001);
+        Due.due("error(2, 1)", x.error(2, 1), 1);
+        x.allow(2, 1, 5);
+        Due.due("error(2, 1): to 0", x.error(2, 1), 0);
     }
 
     private static void pointsByError() {
@@ -342,6 +348,17 @@ public final class CarsTest {
             Due.due("result(car, 0)", x.result(car, 0), 3);
             Due.due("result(car, 1)", x.result(car, 1), ranks[car]);
         }
+    }
+
+    private static void tiesAtTheEnd() {
+        RegularRally x = withControls(5999, 6000);
+        for (int car = 0; car < 2; car++) {
+            x.car(0, 0);
+            x.clock(car, 0, 5999 + 10 * (1 - car));
+            x.clock(car, 1, 6000 + 10 * car);
+        }
+        Due.due("result(0, 1)", x.result(0, 1), 2);
+        Due.due("result(1, 1)", x.result(1, 1), 1);
     }
 
     private static void tiesByPlace() {

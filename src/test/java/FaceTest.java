@@ -131,7 +131,7 @@ public final class FaceTest {
             Due.holds("the program goes without " + word, !Pattern.compile(word).matcher(code).find());
         }
         Due.holds("signs 1 to 127 alone", text.chars().allMatch(c -> c >= 1 && c <= 127));
-        Matcher method = Pattern.compile("(?ms)^( {4}| {8})(?!if|for|while|switch)[\\w\\[\\]. ]+"
+        Matcher method = Pattern.compile("(?ms)^( {4}| {8})(?! |if|for|while|switch)[\\w\\[\\]. ]+"
             + "\\([^;{}]*\\) \\{\\n(.*?)^\\1\\}$").matcher(code);
         int methods = 0;
         while (method.find()) {

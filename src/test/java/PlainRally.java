@@ -143,7 +143,8 @@ final class PlainRally {
         return n;
     }
 
-    private int otherEnd(int r, int spot) {
+    /** The spot at which a road ends, gone from a spot; -1: it can't be. */
+    int otherEnd(int r, int spot) {
         Road road = roads.get(r);
         if (road.shut || road.wet) return -1;
         if (road.a == spot) return road.b;
@@ -237,6 +238,10 @@ final class PlainRally {
 
     boolean hasBook() {
         return !book.isEmpty();
+    }
+
+    int firstSpot() {
+        return book.get(0);
     }
 
     int ways() {

@@ -15,7 +15,10 @@ public final class PlainRallyTest {
     private static final int[] WILD = {Integer.MIN_VALUE, Integer.MAX_VALUE, Integer.MIN_VALUE + 1,
         -1, -2, 32, 33, 16, 1000000, 1000001, 20001, 65536};
 
-    /** A call, how often it is drawn, and what each of its arguments is taken from. */
+    /**
+     * A call, how often it is drawn, and what each of its arguments is taken from; aBook and aProof
+     * are runs of calls that end in a book, a proof of a row that is often a way.
+     */
     private static final String[] CALL_TABLE = {
         "road 3 spot spot length kind", "shut 4 road is", "wet 4 road is", "about 6 road six",
         "book 4 sheet lane cell rowLength", "ways 1", "lay 1", "laid 2 ten",
@@ -23,10 +26,18 @@ public final class PlainRallyTest {
         "control 5 place", "watch 3 control time time time time", "right 3 control time",
         "strike 4 control is", "car 2 start kind", "clock 18 car control time",
         "allow 8 car control claim", "error 10 car control", "points 10 car control",
-        "result 14 car six", "sheet 4 sheet lane rowLength", "lose 1 sheet",
+        "result 14 car five", "sheet 4 sheet lane rowLength", "lose 1 sheet",
         "put 12 sheet cell spot", "put 2 sheet cell wild", "cell 6 sheet cell lane",
         "copy 4 sheet cell sheet cell rowLength", "tell 4 road", "greet 4 car", "as 4 car kind",
-        "trace 2", "fault 8", "told 6 eight",
+        "trace 2", "fault 8", "told 6 eight", "aBook 3", "aProof 8",
+    };
+
+    /** Calls of a rally under way. */
+    private static final String[] DRIVING_TABLE = {
+        "speed 2 place v", "due 4 place", "control 4 place", "watch 1 control time time time time",
+        "right 1 control time", "strike 3 control is", "car 2 start kind",
+        "clock 16 car control time", "allow 8 car control claim", "error 10 car control",
+        "points 10 car control", "result 20 car five", "told 1 eight",
     };
 
     private static final Map<String, Method> REAL = methodsOf(RegularRally.class);
@@ -39,24 +50,36 @@ public final class PlainRallyTest {
     private static int spots;
     private static int wildness;
     private static int compared = 0;
+    private static int spent = 0;
 
     public static void main(String[] args) throws Exception {
+        List<String[]> all = callsOf(CALL_TABLE);
+        List<String[]> driving = callsOf(DRIVING_TABLE);
+        for (int run = 0; run < RUNS; run++) {
+            begin(run);
+            List<String[]> first = run % 2 == 0 ? driving : all;
+            while (told.size() < CALLS) {
+                List<String[]> calls = told.size() < CALLS / 2 ? first : all;
+                call(calls.get(draw(calls.size())));
+            }
+        }
+        System.out.println(RUNS + " runs; " + compared + " searches compared with all ways, "
+            + spent + " spent");
+        Due.holds("searches were compared with all ways", compared > 500);
+        Due.holds("searches were spent", spent > 5);
+        Due.end();
+    }
+
+    /** Each call as often as it is drawn. */
+    private static List<String[]> callsOf(String[] table) {
         List<String[]> calls = new ArrayList<>();
-        for (String line : CALL_TABLE) {
+        for (String line : table) {
             String[] words = line.split(" ");
             for (int k = 0; k < Integer.parseInt(words[1]); k++) {
                 calls.add(words);
             }
         }
-        for (int run = 0; run < RUNS; run++) {
-            begin(run);
-            while (told.size() < CALLS) {
-                call(calls.get(draw(calls.size())));
-            }
-        }
-        System.out.println(RUNS + " runs; " + compared + " searches compared with all ways");
-        Due.holds("searches were compared with all ways", compared > 500);
-        Due.end();
+        return calls;
     }
 
     private static Map<String, Method> methodsOf(Class<?> type) {
@@ -87,15 +110,18 @@ public final class PlainRallyTest {
         if (run % 5 == 0) {
             return;
         }
-        int roads = 3 + draw(7);
+        // a few maps of so many roads that searches are spent
+        boolean isLarge = run % 100 == 1;
+        int roads = isLarge ? 18 : 4 + draw(7);
+        spots = isLarge ? 4 : spots;
         for (int r = 0; r < roads; r++) {
             call(new String[] {"road", "1", "spot", "spot", "length", "kind"});
         }
         compare("sheet", 0, 0, 2);
-        compare("put", 0, 1, 1 + draw(spots - 1));
+        compare("put", 0, 1, isLarge ? 9 : 1 + draw(spots - 1));
         compare("book", 0, 0, 0, 2);
         compare("lay");
-        compare("speed", 0, 1 + draw(900));
+        compare("speed", 0, 1 + draw(run % 4 == 0 ? 3000 : 900));
         for (int c = 0; c < 5; c++) {
             call(new String[] {"control", "1", "place"});
             call(new String[] {"car", "1", "start", "kind"});
@@ -103,12 +129,59 @@ public final class PlainRallyTest {
     }
 
     private static void call(String[] words) throws Exception {
+        if (words[0].equals("aBook")) {
+            aBook();
+            return;
+        }
+        if (words[0].equals("aProof")) {
+            aProof();
+            return;
+        }
         Object[] arguments = new Object[words.length - 2];
         for (int k = 0; k < arguments.length; k++) {
             boolean isFlag = words[k + 2].equals("is");
             arguments[k] = isFlag ? (Object) (draw(2) == 0) : (Object) argument(words[k + 2]);
         }
         compare(words[0], arguments);
+    }
+
+    private static void aBook() throws Exception {
+        List<Integer> row = new ArrayList<>();
+        int n = 2 + draw(draw(3) == 0 ? 7 : 3);
+        while (row.size() < n) {
+            int spot = draw(spots);
+            if (row.isEmpty() || row.get(row.size() - 1) != spot || draw(20) == 0) {
+                row.add(spot);
+            }
+        }
+        fillAndCall("book", row);
+    }
+
+    private static void aProof() throws Exception {
+        List<Integer> row = new ArrayList<>();
+        int spot = plain.hasBook() ? plain.firstSpot() : 0;
+        for (int step = draw(14); step > 0; step--) {
+            List<Integer> exits = new ArrayList<>();
+            for (int r = 0; r < plain.told(0); r++) {
+                if (plain.otherEnd(r, spot) >= 0 && (!row.contains(r) || draw(40) == 0)) {
+                    exits.add(r);
+                }
+            }
+            int r = exits.isEmpty() || draw(40) == 0 ? draw(17) : exits.get(draw(exits.size()));
+            row.add(r);
+            spot = r < plain.told(0) ? plain.otherEnd(r, spot) : spot;
+        }
+        fillAndCall("proof", row);
+    }
+
+    private static void fillAndCall(String name, List<Integer> row) throws Exception {
+        int k = draw(4);
+        int lane = draw(3);
+        compare("sheet", k, lane, row.size());
+        for (int i = 0; i < row.size(); i++) {
+            compare("put", k, i, row.get(i));
+        }
+        compare(name, k, lane, 0, row.size());
     }
 
     private static int argument(String from) {
@@ -121,6 +194,7 @@ public final class PlainRallyTest {
             case "length": return 10 * (1 + draw(4)) + (draw(9) == 0 ? 1 : 0);
             case "kind": case "lane": return draw(3);
             case "road": return draw(plain.told(0) + 1);
+            case "five": return draw(5);
             case "six": return draw(7);
             case "eight": return draw(9);
             case "ten": return draw(11);
@@ -140,6 +214,9 @@ public final class PlainRallyTest {
 
     private static void compare(String name, Object... arguments) throws Exception {
         String key = name + arguments.length;
+        if (told.size() >= CALLS) {
+            return;
+        }
         told.add(name + Arrays.toString(arguments));
         long got;
         try {
@@ -152,6 +229,7 @@ public final class PlainRallyTest {
         if (got != want) {
             fail("answered " + got + ", due is " + want);
         }
+        spent += got == RegularRally.SPENT && name.matches("lay|ways") ? 1 : 0;
         if (name.equals("lay") || name.equals("ways")) {
             compareWithAllWays(name, got);
         }
@@ -159,7 +237,7 @@ public final class PlainRallyTest {
 
     private static void compareWithAllWays(String name, long got) {
         List<List<Integer>> least = plain.hasBook() ? plain.leastOfAll() : null;
-        if (least == null) {
+        if (least == null || got == RegularRally.SPENT) {
             return;
         }
         compared++;

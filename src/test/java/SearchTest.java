@@ -11,6 +11,7 @@ public final class SearchTest {
         waysOfLeastSum();
         waysByKind();
         laidWays();
+        laidAnew();
         layKeepsOnNone();
         layKeepsOnSpent();
         layForgets();
@@ -60,6 +61,9 @@ public final class SearchTest {
         Due.due("book of seven", x.book(0, 2, 6, 7), 7);
         Due.due("two alike", x.book(0, 2, 0, 3), -2);
         Due.due("told(6): as it was", x.told(6), 7);
+        Due.fill(x, 0, 2, 0, 1, 2, 3, 4, 5, 6, 7, 8);
+        Due.due("book of nine spots", x.book(0, 2, 0, 9), -2);
+        Due.due("book of eight of them", x.book(0, 2, 1, 8), 8);
     }
 
     private static void booksFaulty() {
@@ -161,10 +165,27 @@ public final class SearchTest {
         x.road(5, 1, 15, 0);
         x.shut(1, false);
         Due.due("lay()", x.lay(), 3);
+        Due.due("told(1)", x.told(1), 3);
+        Due.due("told(2): of the way in its place", x.told(2), 15);
         Due.due("laid(0): the first as rows of roads by number", x.laid(0), 2);
         x.road(1, 6, 8, 0);
         Due.due("ways()", x.ways(), 3);
         Due.due("laid(1): a search lays nothing", x.laid(1), 1);
+    }
+
+    /** A road shut on the day: another way of the same sum. */
+    private static void laidAnew() {
+        RegularRally x = new RegularRally();
+        x.road(0, 1, 10, 0);
+        x.road(1, 0, 10, 0);
+        Due.book(x, 0, 1);
+        Due.due("lay()", x.lay(), 1);
+        Due.due("laid(0)", x.laid(0), 0);
+        x.shut(0, true);
+        Due.due("lay()", x.lay(), 1);
+        Due.due("laid(0)", x.laid(0), 1);
+        Due.due("about(0, 5)", x.about(0, 5), -9);
+        Due.due("told(2)", x.told(2), 10);
     }
 
     private static void layKeepsOnNone() {
@@ -394,7 +415,28 @@ public final class SearchTest {
         Due.book(x, 0, 1);
         Due.due("the last one found again", x.proof(0, 2, 0, 3), 60);
         Due.due("the last one found once", x.proof(0, 2, 0, 1), 10);
+        proofsOfOrder();
         proofsOfLongRows();
+    }
+
+    private static void proofsOfOrder() {
+        RegularRally x = new RegularRally();
+        x.road(0, 1, 10, 0);
+        x.road(1, 2, 20, 0);
+        x.road(0, 2, 40, 0);
+        x.road(2, 1, 80, 0);
+        Due.fill(x, 0, 0, 0, 1, 2, 0, 3, 2, 1);
+        Due.book(x, 0, 1, 2);
+        Due.due("0 1: by 1 to 2", x.proof(0, 0, 0, 2), 30);
+        Due.due("2: past 1", x.proof(0, 0, 2, 1), -100);
+        Due.book(x, 0, 1, 2, 0);
+        Due.due("0 1 2", x.proof(0, 0, 0, 3), 70);
+        Due.book(x, 0, 2, 1);
+        Due.due("0 1: 1 is ahead of 2 alone", x.proof(0, 0, 0, 2), -100);
+        Due.book(x, 0, 1, 0);
+        Due.due("0 3 2: by 2, too", x.proof(0, 0, 3, 3), 130);
+        Due.book(x, 0, 2, 1, 2, 0);
+        Due.due("0 3 2: 2 once", x.proof(0, 0, 3, 3), -100);
     }
 
     private static void proofsOfLongRows() {

@@ -9,6 +9,7 @@ public final class WayTest {
         speeds();
         speedsOfOnePlace();
         dueByStretches();
+        dueOfEightStretches();
         dueOfTheLongest();
         roadsByPlace();
         controls();
@@ -90,6 +91,20 @@ public final class WayTest {
         Due.due("due(30): 6, 8 and 77", x.due(30), 91);
         Due.due("due(31): and 85", x.due(31), 176);
         Due.due("due(1000): and 83142", x.due(1000), 83233);
+    }
+
+    private static void dueOfEightStretches() {
+        RegularRally x = Due.withWayOf(80);
+        for (int s = 7; s >= 0; s--) {
+            x.speed(10 * s, s + 1);
+        }
+        int due = 0;
+        for (int s = 0; s < 8; s++) {
+            Due.due("due where a stretch begins", x.due(10 * s), due);
+            due += 6000 / (s + 1);
+        }
+        Due.due("due(80)", x.due(80), due);
+        Due.due("roadAt(80)", x.roadAt(80), 0);
     }
 
     private static void dueOfTheLongest() {
