@@ -91,14 +91,12 @@ public final class RegularRally {
         if (road == null) {
             return UNKNOWN;
         }
-        if (!(road instanceof Ford ford)) {
-            return answerOfFault(CAST_FAULT);
+        if (road instanceof Ford ford) {
+            int changed = ford.isWet == is ? 0 : 1;
+            ford.isWet = is;
+            return changed;
         }
-        if (ford.isWet == is) {
-            return 0;
-        }
-        ford.isWet = is;
-        return 1;
+        return answerOfFault(CAST_FAULT);
     }
 
     public int about(int r, int what) {
