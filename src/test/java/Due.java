@@ -2,6 +2,7 @@
 final class Due {
     private static int checks = 0;
     private static int wrong = 0;
+    private static String where = "";
 
     private Due() {
     }
@@ -10,8 +11,17 @@ final class Due {
         checks++;
         if (got != want) {
             wrong++;
-            System.out.println(call + " answered " + got + ", due is " + want);
+            System.out.println(where + call + " answered " + got + ", due is " + want);
         }
+    }
+
+    /** What is told ahead of each wrong answer from now on. */
+    static void within(String place) {
+        where = place;
+    }
+
+    static int checksMade() {
+        return checks;
     }
 
     static void holds(String what, boolean is) {
