@@ -45,8 +45,8 @@ public final class CarSentencesTest {
     private static void clocks(Sentences cars) {
         cars.test("CLOCKED: a CAR at a CONTROL, once", """
             timed(50); control(10); control(20); car(0, 0); car(0, 0); clock(0, 0, 15) 1; clock(0, 0, 15) -3
-            clock(0, 0, 10) -3; error(0, 0) 5; clock(0, 1, 20) 1; clock(1, 0, 10) 1; clock(1, 0, 10) -3
-            clock(0, 1, 21) -3; error(1, 0) 0; error(0, 1) 0
+            clock(0, 0, 10) -3; error(0, 0) 5; clock(0, 1, 20) 1; strike(0, true) 1; clock(1, 0, 10) 1
+            clock(1, 0, 10) -3; clock(0, 1, 21) -3; error(1, 0) 0; error(0, 1) 0
             """);
         cars.test("by its WATCH (tenths, 0 .. 1000000)", """
             timed(50); control(10); control(20); car(0, 0); clock(0, 0, -1) -2; clock(0, 0, 1000001) -2

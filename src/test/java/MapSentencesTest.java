@@ -105,6 +105,7 @@ public final class MapSentencesTest {
             spots(0, 1, 2); lay() 2; laid(0) 0; laid(1) 1; proof(0, 0, 0, 2) 20
             spots(0, 2, 1); lay() 2; laid(0) 2; laid(1) 1; proof(0, 0, 0, 2) -100
             spots(0, 1, 2, 0); lay() 3; laid(0) 0; spots(0, 2, 1, 0); lay() 3; laid(0) 2
+            spots(0, 3, 1); proof(0, 0, 0, 1) -100; lay() -9
             """);
         map.test("(others between, also these again, at will).", """
             road(0, 1, 1, 0) 0; road(1, 3, 1, 1) 1; road(3, 1, 1, 1) 2; road(1, 2, 1, 0) 3
@@ -151,6 +152,8 @@ public final class MapSentencesTest {
             spots(0, 1, 2, 1, 0); proof(0, 0, 0, 3) -100; proof(0, 0, 0, 4) 26; ways() 1
             spots(0, 2, 1, 2, 1); proof(0, 0, 0, 3) -100; ways() 0
             spots(0, 1, 0); proof(0, 0, 0, 4) 26; lay() 2; spots(0, 2, 0); lay() 4
+            spots(1, 0, 2); row(0, 0, 1, 2, 1); proof(0, 0, 0, 1) -100; road(2, 1, 7, 1) 4
+            road(1, 2, 6, 1) 5; row(0, 0, 1, 2, 5); proof(0, 0, 0, 3) -100; lay() 3; laid(0) 3
             """);
         map.test("and the last one is where it ends (found as such, or again).", """
             road(0, 1, 5, 1) 0; road(1, 2, 6, 1) 1; road(2, 1, 7, 1) 2; row(0, 0, 0, 1, 2)

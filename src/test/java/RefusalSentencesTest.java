@@ -86,9 +86,15 @@ public final class RefusalSentencesTest {
             """);
     }
 
+    private static void stay(Stand stand, String... calls) {
+        for (String call : calls) {
+            stand.stays(call);
+        }
+    }
+
     private static void refusedChangesNothing(Sentences terms) {
         terms.test("They change nothing (but fault(), of a call that names FAULTS", () -> {
-            String[] namingNoFault = {
+            stay(Stand.full(),
                 "road(10, 1, 5, 0) -1", "road(0, 0, 5, 0) -2", "road(0, 1, 5, 3) -2", "road(0, 1, 5, 0) -4",
                 "shut(16, true) -1", "about(0, 6) -2", "about(16, 0) -1", "laid(4) -1", "speed(0, 0) -2",
                 "speed(1001, 5) -2", "speed(0, 5) -4", "due(1001) LOST", "roadAt(1001) -2", "control(0) -2",
@@ -97,11 +103,10 @@ public final class RefusalSentencesTest {
                 "car(0, 0) -4", "clock(8, 0, 5) -1", "clock(0, 8, 5) -1", "clock(0, 2, -1) -2",
                 "clock(0, 1, 5) -3", "allow(8, 0, 5) -1", "allow(0, 8, 5) -1", "allow(0, 1, 3001) -2",
                 "allow(0, 1, -1) -2", "error(0, 2) LOST", "error(0, 8) LOST", "points(0, 8) -1",
-                "result(8, 0) -1", "result(0, 4) -2", "lose(4) -1", "tell(16) -1", "greet(8) -1", "told(8) -2",
-            };
-            for (String call : namingNoFault) {
-                Stand.full().stays(call);
-            }
+                "result(8, 0) -1", "result(0, 4) -2", "lose(4) -1", "tell(16) -1", "greet(8) -1", "told(8) -2");
+            stay(Stand.withoutBook(), "ways() -3", "lay() -3");
+            stay(Stand.withoutWay(), "speed(0, 5) -3", "due(0) LOST", "roadAt(0) -3", "control(1) -3", "laid(0) -1");
+            stay(Stand.withoutSpeed(), "due(0) LOST", "error(0, 1) LOST", "points(0, 1) -3", "result(0, 0) -3");
             String[] namingFaults = {
                 "wet(16, true) -1", "book(4, 2, 0, 2) -1", "book(3, 3, 0, 2) -2", "book(3, 2, 0, 1) -2",
                 "book(1, 1, 0, 2) -2", "proof(4, 2, 0, 2) LOST", "proof(3, 3, 0, 2) LOST", "sheet(4, 0, 1) -1",
@@ -112,6 +117,7 @@ public final class RefusalSentencesTest {
             for (String call : namingFaults) {
                 Stand.full().staysButFault(call, 0);
             }
+            Stand.withoutBook().staysButFault("proof(0, 0, 0, 4) LOST", 0);
         });
         terms.test("told(7), by what is SPENT)", () -> {
             Run.of(Maps.SPENDING).then("spots(0, 1); lay() 1; told(7) 6; spots(0, 9); told(7) 6; ways() -6; told(7) 60000")
@@ -144,7 +150,8 @@ public final class RefusalSentencesTest {
             book(0, 0, -1, 1) -13; spots(0, 1); proof(0, 1, -1, -1) LOST; fault() 2; proof(2, 1, -1, -1) LOST; fault() 1
             proof(0, 0, -1, -1) LOST; fault() 4; proof(0, 0, -1, 1) LOST; fault() 3; cell(0, -1, 1) LOST; fault() 2
             cell(2, -1, 1) LOST; fault() 1; cell(0, -1, 0) LOST; fault() 3; put(2, -1, 0) -11
-            copy(0, -1, 2, -1, -1) -11; copy(0, -1, 1, -1, -1) -12; copy(0, -1, 0, -1, -1) -13
+            copy(1, -1, 2, -1, -1) -11; copy(2, -1, 1, -1, -1) -11; copy(0, -1, 1, -1, -1) -12
+            copy(0, -1, 0, -1, -1) -13
             """);
         terms.test("it answers -10 less it", """
             car(0, 0); sheet(0, 0, 1) 1; put(1, 0, 0) -11; as(0, 1) -12; put(0, 1, 0) -13; sheet(1, 0, -1) -14

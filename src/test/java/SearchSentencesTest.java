@@ -141,7 +141,7 @@ public final class SearchSentencesTest {
         });
         promise.test("NONE: no WAY PASSES it (all stays as it was).", () -> {
             Run.of("spots(0, 1); lay() -9; told(1) 0; laid(0) -1; road(1, 0, 5, 1); lay() -9; told(1) 0");
-            Stand.after("shut(3, true) 1").staysButTrials("lay() -9");
+            Stand.cutOff().staysButTrials("lay() -9");
         });
         promise.end();
     }
@@ -218,7 +218,8 @@ public final class SearchSentencesTest {
             road(0, 1, 5, 0); road(1, 2, 6, 0); road(2, 0, 7, 0); row(0, 0, 0, 1, 2)
             spots(0, 3); proof(0, 0, 0, 1) -100; proof(0, 0, 0, 3) -100
             spots(0, 2, 1); proof(0, 0, 0, 2) -100; spots(0, 1); proof(0, 0, 0, 2) -100
-            spots(0, 1, 2, 0, 1); proof(0, 0, 0, 3) -100
+            spots(0, 1, 2, 0, 1); proof(0, 0, 0, 3) -100; spots(0, 3, 2); proof(0, 0, 0, 2) -100
+            spots(0, 2, 1, 2); proof(0, 0, 0, 2) -100
             """);
         promise.test("has no ROADS", """
             spots(0, 1); row(0, 0, 5); proof(0, 0, 0, 0) -100; proof(0, 0, 1, 0) -100; fault() 0

@@ -7,29 +7,35 @@ import java.util.Map;
  * without it, since what is asked changes some of it, too.
  */
 final class Stand {
-    /** 16 roads; the way has four of them, and 1000 metres; road 14 is wet, road 15 is shut. */
+    /** 16 roads; the least way has four of them, 1000 metres; road 14 is wet, road 15 is shut. */
     private static final String MAP = """
         road(0, 1, 100, 0) 0; road(1, 2, 200, 1) 1; road(2, 3, 300, 2) 2; road(3, 4, 400, 0) 3
         road(0, 2, 350, 0) 4; road(1, 3, 700, 1) 5; road(4, 5, 10, 2) 6; road(5, 6, 20, 0) 7
         road(6, 7, 30, 1) 8; road(7, 8, 40, 2) 9; road(8, 9, 50, 0) 10; road(9, 4, 60, 1) 11
         road(5, 7, 70, 2) 12; road(4, 6, 80, 0) 13; road(0, 4, 90, 2) 14; road(1, 4, 95, 1) 15
-        wet(14, true) 1; shut(15, true) 1
-        row(0, 0, 0, 1, 2, 3); row(1, 1, 5, -6, 7, 0, 300); spots(0, 2, 4); lay() 4; told(2) 1000
+        wet(14, true) 1; shut(15, true) 1; row(0, 0, 0, 1, 2, 3); row(1, 1, 5, -6, 7, 0, 300)
+        row(3, 2, 0, 2, 4)
         """;
-    private static final String DRIVE = """
+    private static final String CARS = """
+        car(0, 0) 0; car(10, 1) 1; car(20, 2) 2; car(30, 0) 3
+        car(40, 1) 4; car(50, 2) 5; car(60, 0) 6; car(70, 1) 7
+        """;
+    private static final String BOOK = "spots(0, 2, 4);";
+    private static final String WAY = "lay() 4; told(2) 1000;";
+    private static final String SPEEDS = """
         speed(0, 600) 1; speed(100, 300) 2; speed(300, 450) 3; speed(500, 77) 4
         speed(700, 900) 5; speed(100, 310) 6; speed(900, 1200) 7; speed(950, 60) 8
+        """;
+    private static final String DRIVE = """
         control(500) 0; control(100) 1; control(300) 2; control(700) 3
         control(900) 4; control(1000) 5; control(950) 6; control(200) 7
         watch(1, 0, 1000, 10, 900) 1; watch(3, 50, 90000, 0, 100000) 1; strike(2, true) 1
-        car(0, 0) 0; car(10, 1) 1; car(20, 2) 2; car(30, 0) 3
-        car(40, 1) 4; car(50, 2) 5; car(60, 0) 6; car(70, 1) 7
         clock(0, 1, 130) 1; clock(0, 0, 900) 1; clock(0, 7, 500) 1; clock(0, 3, 6000) 1
         clock(1, 3, 3000) 1; clock(1, 1, 90) 1; clock(1, 2, 700) 1; clock(2, 5, 4000) 1
         clock(2, 4, 3500) 1; clock(2, 6, 3600) 1; clock(3, 2, 800) 1; clock(3, 1, 500) 1
         allow(0, 1, 5) 0; allow(0, 2, 700) 0; allow(1, 3, 3000) 0; allow(2, 5, 9) 0; allow(3, 2, 1) 0
-        tell(2) 300; greet(1) 7; put(0, -1, 0) -13
         """;
+    private static final String LAST = "tell(2) 300; greet(1) 7; put(0, -1, 0) -13;";
 
     private final String calls;
 
@@ -38,18 +44,35 @@ final class Stand {
     }
 
     static Stand full() {
-        return new Stand(MAP + DRIVE);
+        return new Stand(MAP + CARS + BOOK + WAY + SPEEDS + DRIVE + LAST);
     }
 
-    static Stand after(String more) {
-        return new Stand(MAP + DRIVE + more);
+    static Stand withoutBook() {
+        return new Stand(MAP + CARS + LAST);
     }
 
-    /** A rally under way on a map on which the search of its book now is spent. */
+    static Stand withoutWay() {
+        return new Stand(MAP + CARS + BOOK + "ways() 1;" + LAST);
+    }
+
+    /** No speed from place 0 on. */
+    static Stand withoutSpeed() {
+        return new Stand(MAP + CARS + BOOK + WAY + "speed(100, 300) 1;" + DRIVE + LAST);
+    }
+
+    /** The way that was laid is open no more, and there is no other. */
+    static Stand cutOff() {
+        return new Stand(MAP + CARS + BOOK + WAY + SPEEDS + DRIVE + LAST + "shut(3, true) 1");
+    }
+
+    /** A map on which the search for the book, as it is now, is spent. */
     static Stand spending() {
-        return new Stand(Maps.SPENDING + "spots(0, 1); lay() 1; speed(0, 600) 1; control(1) 0;"
-            + "strike(0, true) 1; car(5, 1) 0; clock(0, 0, 7) 1; allow(0, 0, 8) 0; spots(0, 9);"
-            + "put(0, 0, 0) -11");
+        return new Stand(Maps.SPENDING + "row(0, 0, 0, 1, 2, 3);" + CARS + """
+            spots(0, 1, 2, 3, 4); lay() 4; speed(0, 600) 1; speed(2, 60) 2
+            control(3) 0; control(1) 1; control(4) 2; watch(1, 0, 10, 3, 70) 1; strike(2, true) 1
+            clock(0, 1, 7) 1; clock(0, 0, 99) 1; clock(1, 2, 60) 1; allow(0, 0, 8) 0; spots(0, 9)
+            tell(1) 1; put(0, -1, 0) -13
+            """);
     }
 
     /** The call changes nothing at all. */
@@ -82,9 +105,17 @@ final class Stand {
         Map<String, Long> answers = new LinkedHashMap<>();
         ask(run, answers, "fault()", "trace()");
         askEach(run, answers, "told(#)", 8);
+        askEach(run, answers, "cell(3, #, 2)", 4);
+        askEach(run, answers, "cell(0, #, 0)", 5);
+        askEach(run, answers, "cell(1, #, 1)", 6);
+        ask(run, answers, "cell(2, 0, 0)", "proof(0, 0, 0, 4)", "lose(2)");
         askEach(run, answers, "laid(#)", 5);
         for (int what : new int[] {0, 2, 3, 4, 5}) {
             askEach(run, answers, "about(#, " + what + ")", 16);
+        }
+        if (run.answer("told(1)") > 0 && run.answer("due(0)") == Long.MIN_VALUE) {
+            // without a speed from 0 on nothing is told of the cars
+            ask(run, answers, "speed(0, 600)");
         }
         for (int place : new int[] {0, 1, 99, 100, 101, 300, 500, 700, 901, 1000}) {
             ask(run, answers, "due(" + place + ")", "roadAt(" + place + ")");
@@ -95,10 +126,6 @@ final class Stand {
             askEach(run, answers, "result(" + car + ", #)", 4);
             ask(run, answers, "greet(" + car + ")");
         }
-        askEach(run, answers, "cell(0, #, 0)", 5);
-        askEach(run, answers, "cell(1, #, 1)", 6);
-        askEach(run, answers, "cell(3, #, 2)", 4);
-        ask(run, answers, "cell(2, 0, 0)", "proof(0, 0, 0, 4)", "lose(2)");
         askWhatChanges(run, answers);
         return answers;
     }
