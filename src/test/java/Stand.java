@@ -108,7 +108,7 @@ final class Stand {
         askEach(run, answers, "cell(3, #, 2)", 4);
         askEach(run, answers, "cell(0, #, 0)", 5);
         askEach(run, answers, "cell(1, #, 1)", 6);
-        ask(run, answers, "cell(2, 0, 0)", "proof(0, 0, 0, 4)", "lose(2)");
+        ask(run, answers, "proof(0, 0, 0, 4)", "lose(2)");
         askEach(run, answers, "laid(#)", 5);
         for (int what : new int[] {0, 2, 3, 4, 5}) {
             askEach(run, answers, "about(#, " + what + ")", 16);
