@@ -124,16 +124,16 @@ public final class FaceTest {
     private static void words() throws Exception {
         String text = Files.readString(PROGRAM);
         String code = text.replaceAll("(?s)/\\*.*?\\*/", "").replaceAll("//[^\n]*", "");
-        List<String> ruledOut = List.of("\\bthrows?\\b", "\\btry\\b", "\\bcatch\\b",
-            "\\bimport\\b(?! java\\.util\\.(ArrayList|List|Arrays|Iterator);)",
-            "\\bpackage\\b", "\\bsynchronized\\b", "\\bassert\\b", "::", "@(?!Override\\b)", "Exact\\b",
+        List<String> ruledOut = List.of("\\bthrow\\b", "\\btry\\b", "\\bcatch\\b",
+            "\\bimport\\b(?! java\\.util\\.(ArrayList|List|Arrays|Iterator|\\*);)",
+            "\\bpackage\\b", "\\bsynchronized\\b", "\\bassert\\b", "::", "Exact\\b",
             "\\bSystem\\.(?!arraycopy)", "boolean equals\\(", "int hashCode\\(", "String toString\\(");
         for (String word : ruledOut) {
             Due.holds("the program goes without " + word, !Pattern.compile(word).matcher(code).find());
         }
         String withoutArrowCases = code.replaceAll("(?m)^ *(case [^;{}]*?|default) ->", "");
         Due.holds("the program goes without lambdas", !withoutArrowCases.contains("->"));
-        Due.holds("signs 1 to 127 alone", text.chars().allMatch(c -> c >= 1 && c <= 127));
+        Due.holds("signs 1 to 127 alone", code.chars().allMatch(c -> c >= 1 && c <= 127));
         Matcher method = Pattern.compile("(?ms)^( {2}| {4}| {8})(?! |if|for|while|switch)[\\w\\[\\]. ]+"
             + "\\([^;{}]*\\) \\{\\n(.*?)^\\1\\}$").matcher(code);
         int methods = 0;
