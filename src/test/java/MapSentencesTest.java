@@ -105,7 +105,8 @@ public final class MapSentencesTest {
             spots(0, 1, 2); lay() 2; laid(0) 0; laid(1) 1; proof(0, 0, 0, 2) 20
             spots(0, 2, 1); lay() 2; laid(0) 2; laid(1) 1; proof(0, 0, 0, 2) -100
             spots(0, 1, 2, 0); lay() 3; laid(0) 0; spots(0, 2, 1, 0); lay() 3; laid(0) 2
-            spots(0, 3, 1); proof(0, 0, 0, 1) -100; lay() -9
+            spots(0, 3, 1); proof(0, 0, 0, 1) -100; lay() -9; road(2, 3, 1, 1) 3; road(3, 2, 1, 1) 4
+            spots(0, 1, 2); row(0, 0, 2, 3, 4); proof(0, 0, 0, 3) -100
             """);
         map.test("(others between, also these again, at will).", """
             road(0, 1, 1, 0) 0; road(1, 3, 1, 1) 1; road(3, 1, 1, 1) 2; road(1, 2, 1, 0) 3
